@@ -107,6 +107,9 @@ public final class AskTest {
         Check.due("never", walk.meet(1, 3), -2);
         walk.step();
         Check.due("told by the step of all", walk.meet(0, 1), 4);
+        String apart = "sheet 3;goer 3 0 0;goer 4 0 0;stone 0;stone 1";
+        Check.due("at the last of 200", Check.walk(apart, "turn 1 if step=198 and goer=0").meet(0, 1), 199);
+        Check.due("one too late", Check.walk(apart, "turn 1 if step=199 and goer=0").meet(0, 1), -2);
         EdgeWalk out = Check.walk("sheet 2;goer 0 0 0;goer 0 0 0");
         out.step();
         Check.due("not in the white", out.meet(0, 1), -2);
@@ -128,6 +131,11 @@ public final class AskTest {
         Check.due("by two", walk.shortest(0, 8), 4);
         walk.step();
         Check.due("one who is out", walk.shortest(1, 0), -1);
+        EdgeWalk back = Check.walk("sheet 3;goer 8 1 0;stone 7;stone 4;stone 1");
+        Check.due("against the numbers", back.shortest(0, 2), 2);
+        back = Check.walk("sheet 3;goer 8 1 0;stone 7;stone 4");
+        Check.due("round the stones", back.shortest(0, 6), 6);
+        Check.due("to the first", back.shortest(0, 0), 4);
         EdgeWalk walled = Check.walk("sheet 3;goer 0 0 0;stone 1;stone 3;stone 0");
         Check.due("walled in", walled.shortest(0, 4), -2);
         Check.due("here, on a stone", walled.shortest(0, 0), 0);
@@ -195,6 +203,11 @@ public final class AskTest {
         best(walk, true, 5, 0, 1, 0, 1);
         best(Check.walk("sheet 2;goer 0 0 0"), true, 5, 1, 0, -2, -2);
         best(Check.walk("sheet 2"), true, 5, 0, 0, -2, -2);
+        best(Check.walk("sheet 2;goer 0 0 1;join 0 0 9"), true, 5, 1, 0, -2, -2);
+        best(Check.walk("sheet 2;goer 1 0 2;join 0 3 0;stone 2"), true, 3, 0, 1, 0, 0);
+        best(Check.walk("sheet 2;goer 2 3 2;join 3 0 0;stone 0;stone 1;stone 3"), true, 2, 0, 1, -2, -2);
+        best(Check.walk("sheet 3;goer 3 3 2;join 3 0 0;stone 1;stone 5;stone 7"), true, 3, 0, 1, 3, 3);
+        best(Check.walk("sheet 2;goer 0 0 0;goer 3 1 9;goer 3 2 9"), true, 5, 1, 14, -2, -2);
     }
 
     private static void bestStone() {
@@ -226,6 +239,15 @@ public final class AskTest {
         walk.way(0, 1);
         walk.step();
         Check.due("one who is out", walk.rests(0, 2, 1, 0), -1);
+        EdgeWalk inner = Check.walk("sheet 3;goer 4 0 0;goer 4 0 0");
+        Check.due("all", inner.rests(0, 1, 1, 0), 16);
+        Check.due("all, one", inner.rests(0, 1, 1, 1), 0);
+        Check.due("all, the other", inner.rests(0, 1, 1, 2), 0);
+        EdgeWalk corner = Check.walk("sheet 2;goer 3 0 0;goer 2 0 0;stone 0;stone 1");
+        Check.due("stones and each other", corner.rests(0, 1, 1, 0), 4);
+        Check.due("one", corner.rests(0, 1, 2, 1), 0);
+        Check.due("the other", corner.rests(0, 1, 2, 2), 0);
+        Check.due("in the end before a stone", corner.rests(0, 1, 20, 0), 1);
         EdgeWalk none = Check.walk("sheet 2;goer 0 0 2;goer 0 0 1;stone 1",
                 "turn here*2 if goer=0;turn 1-here if goer=1");
         Check.due("none", none.rests(0, 1, 2, 0), 0);

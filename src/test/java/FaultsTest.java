@@ -118,6 +118,8 @@ public final class FaultsTest {
         rule("turn 1 if " + "not ".repeat(11) + "1=1", 50, 2);
         rule("turn 1 if " + "not[".repeat(5) + " not 1=1" + "]".repeat(5), 31, 2);
         rule("turn 1 if " + "[".repeat(10) + "1=1 and not 1=1", 28, 2);
+        rule("turn 1 if not 1=1 and " + "[".repeat(11), 32, 2);
+        rule("turn 1 if not not 1=1;turn 1 if " + "[".repeat(11), 42, 2);
     }
 
     private static void parts() {

@@ -79,6 +79,13 @@ public final class GuessTest {
         walk.note(0, 0, 8);
         Check.due("no rule is so", walk.look(1, 0), -2);
         Check.due("no rule is so", walk.look(1, 1), -2);
+        EdgeWalk six = Check.walk("sheet 3;goer 4 0 9;goer 4 1 9", "turn 0", "turn 0", "turn 0", "turn 0", "turn 0",
+                "turn 1");
+        Check.due("one is unlike", six.look(1, 1), 6);
+        Check.due("all seven", six.look(0, 1), 7);
+        EdgeWalk first = Check.walk("sheet 3;goer 4 0 9;goer 4 0 9", "turn 1 - goer", "turn 2 - goer * 2");
+        Check.due("the first tells more", first.look(1, 0), 0);
+        Check.due("all unlike", first.look(1, 1), 1);
         EdgeWalk nobody = Check.walk("sheet 2", "turn 1");
         Check.due("nobody", nobody.look(1, 0), -2);
         Check.due("nobody", nobody.look(1, 1), -2);
@@ -114,5 +121,13 @@ public final class GuessTest {
         folds(walk, 128, 0, 0, 0, 0);
         walk.note(5, 0, 1);
         folds(walk, 32, 0, 0, 1, 0);
+        EdgeWalk last = Check.walk("sheet 2;goer 2 3 9");
+        last.note(2, 0, 3);
+        folds(last, 128, 0, 0, 0, 1);
+        EdgeWalk blocked = Check.walk("sheet 2;goer 2 3 9;stone 3");
+        blocked.note(3, 0, -1);
+        folds(blocked, 128, 0, 0, 0, 1);
+        blocked.note(1, 0, -1);
+        folds(blocked, 128, 0, 0, 0, 1);
     }
 }

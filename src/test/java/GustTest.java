@@ -77,6 +77,8 @@ public final class GustTest {
 
     private static void wrong() {
         EdgeWalk walk = Check.walk(SHEET);
+        Check.due("the least of all", walk.gusts(1, 1, 0, 1), 39);
+        Check.due("the most of all", walk.gusts(10, 60, 100, 0) >= 0 ? 1 : 0, 1);
         Check.due("m 0", walk.gusts(0, 1, 0, 0), -1);
         Check.due("m 11", walk.gusts(11, 1, 0, 0), -1);
         Check.due("n 0", walk.gusts(1, 0, 0, 0), -1);

@@ -66,6 +66,11 @@ public final class LanguageTest {
                 Check.due(f + " changes", constant && !Modifier.isFinal(f.getModifiers()) ? 1 : 0, 0);
             }
             Check.due(c + " fields", fields <= 20 ? 1 : 0, 1);
+            for (Method m : c.getDeclaredMethods()) {
+                boolean shared = (" " + FACE.replaceAll("\\d", "") + " ").contains(" " + m.getName() + " ");
+                Check.due("a public name is used inside: " + m, shared ? 1 : 0, 0);
+                Check.due(m + " parameters", m.getParameterCount() <= 7 ? 1 : 0, 1);
+            }
         }
     }
 

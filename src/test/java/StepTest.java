@@ -139,9 +139,23 @@ public final class StepTest {
                 Check.due(rule, walk.goer(1, 1), more == 0 ? 0 : 3);
             }
         }
+        margins();
         EdgeWalk walk = Check.walk("sheet 3;goer 2 1 9;stone 0", "turn 2 if stone = 1");
         walk.step();
         Check.due("no stone beyond the edge", walk.goer(0, 3), 1);
+    }
+
+    /** At row 1, column 3 of 5. */
+    private static void margins() {
+        int[] margins = {1, 1, 3, 3};
+        for (int faces = 0; faces < 4; faces++) {
+            for (int margin = 0; margin < 5; margin++) {
+                EdgeWalk walk = Check.walk("sheet 5;goer 8 " + faces + " 9", "turn 2 if margin = " + margin);
+                walk.step();
+                int want = margin == margins[faces] ? (faces + 2) % 4 : faces;
+                Check.due("margin " + margin + " of " + faces, walk.goer(0, 1), want);
+            }
+        }
     }
 
     private static int turned(String sum) {
@@ -163,6 +177,10 @@ public final class StepTest {
         Check.due("16/4*3/2", turned("16/4*3/2"), 2);
         Check.due("7%5*3", turned("7%5*3"), 2);
         Check.due("0-7/2", turned("0-7/2"), 1);
+        Check.due("9-2*3", turned("9-2*3"), 3);
+        Check.due("2*3-3", turned("2*3-3"), 3);
+        Check.due("9-8/4*2", turned("9-8/4*2"), 1);
+        Check.due("1+7%3", turned("1+7%3"), 2);
         long round = 99999L * 99999L * 99999L * 99999L;
         for (int by = 3; by <= 5; by++) {
             Check.due("round by " + by, turned("99999*99999*99999*99999/" + by),
@@ -194,6 +212,15 @@ public final class StepTest {
         holds("3>2", true);
         holds("2>2", false);
         holds("0-1<0", true);
+        holds("not 3=2", true);
+        holds("not 2=2", false);
+        holds("1=0+1", true);
+        holds("5=2*2+1", true);
+        holds("0=1-1", true);
+        holds("1>0+1", false);
+        holds("1<=2-2", false);
+        holds("1>=0+2", false);
+        holds("2<1+1", false);
         holds("1=1 or 1=2 and 1=2", true);
         holds("[1=1 or 1=2] and 1=2", false);
         holds("not 1=2 and 1=2", false);
