@@ -4,8 +4,20 @@ import java.nio.charset.StandardCharsets;
 final class Check {
     private static int wrong = 0;
     private static int asked = 0;
+    private static String sentence = "";
 
     private Check() {
+    }
+
+    /** The sentence of the document by which the next answers are due. */
+    static void says(String heading, String quote) {
+        sentence = "[" + heading + ": " + quote + "] ";
+        due("the document says so", Doc.says(heading, quote) ? 1 : 0, 1);
+    }
+
+    /** As of a promise; DocTest looks that each promise is quoted. */
+    static void says(int promise, String quote) {
+        says("Promise " + promise + ": ", quote);
     }
 
     static void due(String what, int got, int want) {
@@ -13,7 +25,7 @@ final class Check {
         if (got != want) {
             wrong++;
             if (wrong <= 40) {
-                System.out.println(what + " answered " + got + ", due is " + want);
+                System.out.println(sentence + what + " answered " + got + ", due is " + want);
             }
         }
     }
