@@ -28,6 +28,7 @@ public final class AskBoundsTest {
         bestStone();
         bestStoneRefused();
         rests();
+        restsOfTwo();
         restsRefused();
         ring();
         ringOut();
@@ -446,6 +447,18 @@ public final class AskBoundsTest {
         bestFold(Check.walk("sheet 3;goer 5 1 1;goer 3 3 60;stone 5;stone 3"), 4, 0, 57, 1, 0);
         bestFold(Check.walk("sheet 3;goer 3 3 60;goer 5 1 0;stone 5;stone 3"), 4, 1, 59, 3, 0);
         bestFold(Check.walk("sheet 3;goer 5 1 0;goer 3 0 60;stone 0"), 4, 1, 60, -2, -2);
+        int[] middles = {1, 5, 7, 3};
+        for (int k = 0; k < 16; k++) {
+            int edge = k / 4;
+            int to = k % 4;
+            StringBuilder text = new StringBuilder("sheet 3;goer " + middles[edge] + " " + edge + " 3;join " + edge + " ");
+            text.append((to + 1) % 4).append(" 1");
+            for (int other = 0; other < 4; other++) {
+                text.append(other == to ? "" : ";stone " + middles[other]);
+            }
+            bestFold(Check.walk(text.toString()), 4, 0, 1, edge, to);
+        }
+        bestFold(Check.walk("sheet 2;goer 0 0 1;join 0 0 9"), 4, 1, 0, -2, -2);
         Check.says(24, "BEST FOLD what 0: how many LOST, 1: how much, 2: which EDGE, 3: where (both -2: none).");
         bestFold(Check.walk("sheet 2"), 40, 0, 0, -2, -2);
         bestFold(Check.walk("sheet 2" + ";goer 0 1 60".repeat(5) + ";stone 1"), 40, 0, 300, -2, -2);
@@ -481,6 +494,8 @@ public final class AskBoundsTest {
         bestStone(Check.walk("sheet 6;goer 29 2 0"), 3, 0, 0, 35);
         bestStone(Check.walk("sheet 3;goer 4 0 0;goer 4 2 0"), 3, 1, 0, 1);
         bestStone(Check.walk("sheet 3;goer 4 2 0;goer 3 1 60"), 4, 0, 59, 7);
+        bestStone(Check.walk("sheet 2;goer 0 3 1;join 3 0 1"), 3, 1, 0, -2);
+        bestStone(Check.walk("sheet 6;goer 0 3 0"), 2, 1, 0, -2);
         bestStone(Check.walk("sheet 2"), 40, 0, 0, -2);
     }
 
@@ -507,12 +522,67 @@ public final class AskBoundsTest {
         rests(Check.walk(corners), 1, 4, 1, 0);
         rests(Check.walk(corners, late), 19, 4, 1, 0);
         rests(Check.walk(corners, late), 20, 2, 2, 0);
+        for (int k = 0; k < 16; k++) {
+            String alone = "turn 5-faces if goer=0 and faces=" + k / 4 + " or goer=1 and faces=" + k % 4 + ";turn 4-faces";
+            rests(Check.walk("sheet 2;goer 0 0 9;goer 0 0 9", alone), 1, 1, k / 4, k % 4);
+        }
         Check.due("turned about", Check.walk(corners).rests(1, 0, 1, 1), 0);
         Check.due("turned about", Check.walk(corners).rests(1, 0, 1, 2), 1);
         rests(Check.walk("sheet 3;goer 4 0 0;goer 4 3 0"), 1, 16, 0, 0);
         Check.says(26, "RESTS what 0: how many, 1, 2: how the first two FACE (-2: there is none).");
         String chase = "turn here*2 if goer=0;turn 1-here if goer=1";
         rests(Check.walk("sheet 2;goer 0 0 2;goer 0 0 1;stone 1", chase), 2, 0, -2, -2);
+    }
+
+    private static int[] onByHand(String sheet, String rule, int two, int n) {
+        EdgeWalk walk = Check.walk(sheet, rule);
+        walk.way(0, two / 4);
+        walk.way(1, two % 4);
+        int[] on = new int[2];
+        for (int k = 0; k < n; k++) {
+            int bits = walk.step();
+            on[0] += bits & 1;
+            on[1] += bits >> 1 & 1;
+        }
+        return on;
+    }
+
+    /** How many and the first, as 100 * how many + the first; each two is walked by hand. */
+    private static int restsByHand(String sheet, String rule, int n) {
+        int[][] on = new int[16][];
+        for (int two = 0; two < 16; two++) {
+            on[two] = onByHand(sheet, rule, two, n);
+        }
+        int many = 0;
+        int first = -1;
+        for (int two = 0; two < 16; two++) {
+            boolean rest = true;
+            for (int faces = 0; faces < 4; faces++) {
+                rest &= on[faces * 4 + two % 4][0] <= on[two][0] && on[two / 4 * 4 + faces][1] <= on[two][1];
+            }
+            many += rest ? 1 : 0;
+            first = rest && first < 0 ? two : first;
+        }
+        return 100 * many + first;
+    }
+
+    /** What one had best do hangs on what the other does: they turn where they meet. */
+    private static void restsOfTwo() {
+        terms("twos of which neither would have more by another one");
+        String[] sheets = {"sheet 2;goer 0 0 2;goer 0 0 1;stone 1", "sheet 2;goer 0 0 9;goer 1 0 3;stone 2",
+            "sheet 3;goer 4 0 3;goer 4 0 3", "sheet 3;goer 4 0 3;goer 3 0 3;stone 7", "sheet 3;goer 1 0 9;goer 5 0 9;stone 3"};
+        String[] rules = {"turn here*2 if goer=0;turn 1-here if goer=1", "turn here", "turn 2 if here=1;turn 1 if stone=1",
+            "turn goer+here if step>0", "turn 1 if margin=0 and here=0;turn 3 if here>0"};
+        for (String sheet : sheets) {
+            for (String rule : rules) {
+                for (int n = 1; n <= 20; n = n < 6 ? n + 1 : n + 7) {
+                    EdgeWalk walk = Check.walk(sheet, rule);
+                    int many = walk.rests(0, 1, n, 0);
+                    int first = many == 0 ? -1 : walk.rests(0, 1, n, 1) * 4 + walk.rests(0, 1, n, 2);
+                    Check.due("rests " + n + " of " + sheet + ", " + rule, 100 * many + first, restsByHand(sheet, rule, n));
+                }
+            }
+        }
     }
 
     private static void restsRefused() {
@@ -566,6 +636,9 @@ public final class AskBoundsTest {
         EdgeWalk places = Check.walk("sheet 2;goer 0 0 60", "turn 3 if cell = 0 and faces = 2;"
                 + "turn 3 if cell = 1 and faces = 1;turn 1 if cell = 1 and faces = 2;turn 1 if cell = 0 and faces = 3");
         ring(places, 1, 6);
+        EdgeWalk days = Check.walk("sheet 2;goer 0 0 60;join 0 0 9", "turn 3 if cell = 0 and faces = 2;"
+                + "turn 3 if cell = 1 and faces = 1;turn 1 if cell = 1 and faces = 2;turn 1 if cell = 0 and faces = 3");
+        ring(days, 1, 24);
         EdgeWalk lost = Check.walk("sheet 2;goer 0 0 1;goer 0 1 0;stone 0;stone 1");
         ring(lost, 1, 1);
         ring(Check.walk("sheet 2;goer 0 0 0"), 2, 1);

@@ -37,6 +37,7 @@ public final class GuessBoundsTest {
         image();
         imageRefused();
         back();
+        backToTheText();
         backLeaves();
         backRefused();
         Check.finish();
@@ -228,6 +229,10 @@ public final class GuessBoundsTest {
         look(all, 1, 0, 6);
         all.note(1, 0, 3);
         look(all, 1, 0, 1);
+        EdgeWalk noted = six(1, 2, 6, 7);
+        noted.note(5, 0, 3);
+        look(noted, 6, 0, 3);
+        look(noted, 7, 0, 2);
         EdgeWalk alone = Check.walk("sheet 2;goer 0 0 0");
         look(alone, 0, 0, 1);
         look(alone, 60, 0, 1);
@@ -242,6 +247,8 @@ public final class GuessBoundsTest {
         look(same, 1, 1, 2);
         EdgeWalk last = Check.walk("sheet 3" + ";goer 4 0 9".repeat(5), "turn 1 if goer = 4");
         look(last, 1, 4, 1);
+        EdgeWalk five = Check.walk("sheet 3" + ";goer 4 0 9".repeat(5), "turn 0");
+        look(five, 1, 0, 2);
         terms("by whose CELL, or none, these part best");
         EdgeWalk out = Check.walk("sheet 2;goer 0 0 0;goer 0 0 9", "turn 3", "turn 1 if goer = 1;turn 3");
         look(out, 1, 1, 2);
@@ -608,6 +615,32 @@ public final class GuessBoundsTest {
         Check.due("without a sheet", nothing.back(3), 0);
         counts(nothing, 0, 0, 0, -1, 0, 0, 0, 0, 0, 0, 0, 0, 0, -1);
         Check.due("no sheet then", nothing.join(0, 0), -1);
+    }
+
+    private static void backToTheText() {
+        terms("gone back to, it is as it was");
+        EdgeWalk walk = Twin.busy();
+        walk.sheet();
+        walk.note(0, 0, 2);
+        ruled(walk, 0, -2);
+        walk.back(2);
+        ruled(walk, 3, -1);
+        folds(walk, 256, 0, 0, 0, 0);
+        Check.due("a third note", walk.note(2, 2, 1), 3);
+        folds(walk, 0, -2, -2, -2, -2);
+        walk.back(0);
+        ruled(walk, 4, -1);
+        Check.due("notes of that one", walk.count(9), 0);
+        walk.back(2);
+        Check.due("of the other", walk.count(9), 2);
+        walk.note(-1, 0, 0);
+        walk.note(1, 0, 7);
+        walk.image(3);
+        walk.note(-1, 0, 0);
+        walk.note(2, 1, 0);
+        walk.note(3, 2, 1);
+        walk.back(3);
+        ruled(walk, 3, -1);
     }
 
     private static void backLeaves() {

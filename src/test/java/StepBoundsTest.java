@@ -5,6 +5,7 @@ public final class StepBoundsTest {
 
     public static void main(String[] args) {
         sums();
+        tests();
         plainWords();
         margin();
         stoneWord();
@@ -81,10 +82,44 @@ public final class StepBoundsTest {
         holds("17/5%2 = 1", true);
         holds("17%5/2 = 1", true);
         holds("20-17%5*3+4/2 = 16", true);
-        holds("1 = 2-1", true);
-        holds("2-1 = 1", true);
+        String[] signs = {"<", "<=", "=", ">=", ">"};
+        for (int k = 0; k < 5; k++) {
+            for (int right = 4; right <= 6; right++) {
+                boolean want = right == 5 ? k >= 1 && k <= 3 : right == 6 ? k < 2 : k > 2;
+                holds("5 " + signs[k] + " 9-" + (9 - right), want);
+                holds("5 " + signs[k] + " 2*" + right + "-" + right, want);
+                holds("5 " + signs[k] + " 1+" + right + "*3/3-1", want);
+                holds("7-2 " + signs[k] + " " + right, want);
+                holds("1+2*2 " + signs[k] + " " + right + "%9", want);
+            }
+        }
         Check.due("turn 1+2*5", turned("turn 1+2*5"), 3);
         Check.due("turn 9-3-4", turned("turn 9-3-4"), 2);
+    }
+
+    private static void tests() {
+        terms("TEST: PART { or PART }. PART: FACT { and FACT }. FACT: not FACT | [ TEST ]");
+        for (int k = 0; k < 8; k++) {
+            boolean a = k / 4 == 1;
+            boolean b = k / 2 % 2 == 1;
+            boolean c = k % 2 == 1;
+            String x = a ? "2=2" : "2=3";
+            String y = b ? "1<=2" : "3<=2";
+            String z = c ? "4>3" : "3>4";
+            holds(x + " or " + y + " or " + z, a || b || c);
+            holds(x + " and " + y + " and " + z, a && b && c);
+            holds(x + " or " + y + " and " + z, a || b && c);
+            holds(x + " and " + y + " or " + z, a && b || c);
+            holds("[" + x + " or " + y + "] and " + z, (a || b) && c);
+            holds(x + " and [" + y + " or " + z + "]", a && (b || c));
+            holds("not " + x, !a);
+            holds("not not " + x, a);
+            holds("not " + x + " and " + y, !a && b);
+            holds("not " + x + " or " + y, !a || b);
+            holds("not [" + x + " and " + y + "]", !(a && b));
+            holds("not [" + x + " or not " + y + "] or " + z, !(a || !b) || c);
+            holds(x + " and not " + y + " or not " + z, a && !b || !c);
+        }
     }
 
     private static void plainWords() {
@@ -163,7 +198,7 @@ public final class StepBoundsTest {
             word("sheet 3;goer 4 " + faces + " 60;stone 4;stone " + next[(faces + 1) % 4] + ";stone "
                     + next[(faces + 2) % 4] + ";stone " + next[(faces + 3) % 4], "stone", 0, 2);
         }
-        word("sheet 3;goer 2 1 60;stone 3;stone 0", "stone", 0, 2);
+        word("sheet 3;goer 2 1 60;stone 3;stone 0;join 0 0 9;join 1 1 9;join 2 2 9;join 3 3 9", "stone", 0, 2);
         word("sheet 3;goer 3 3 60;stone 2;stone 5", "stone", 0, 2);
         word("sheet 3;goer 1 0 60;stone 7;stone 0", "stone", 0, 2);
         word("sheet 3;goer 7 2 60;stone 1;stone 8", "stone", 0, 2);

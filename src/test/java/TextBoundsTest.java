@@ -17,6 +17,7 @@ public final class TextBoundsTest {
         edgesFaced();
         begin();
         ruleBytesAndClauses();
+        readAnew();
         turnAndIf();
         numbers();
         words();
@@ -173,6 +174,7 @@ public final class TextBoundsTest {
             int last = side * side - 1;
             EdgeWalk walk = Check.walk("sheet " + side + ";stone 0;stone " + last + ";stone 0;stone 0");
             Check.due("two", walk.count(8), 2);
+            Check.due("days are no stones", Check.walk("sheet " + side + ";join 3 3 9;goer 3 3 9;stone 1").count(8), 1);
             Check.due("the first", walk.stoneIn(0), 1);
             Check.due("the last", walk.stoneIn(last), 1);
             sheet("sheet " + side + ";stone " + (last + 1), 14, 1);
@@ -264,6 +266,28 @@ public final class TextBoundsTest {
         Check.due("at the 400th byte", turned("turn" + " ".repeat(395) + "3"), 3);
     }
 
+    /** What a RULE before, or a FAULT in one, left half read is gone. */
+    private static void readAnew() {
+        terms("RULES 0 to 5: texts likewise");
+        String[] before = {"turn 1 if 1=1 or 2=3 and not [3=3]", "turn 1 if [[[not [not 1=1 or 2*3+", "turn 1+2*",
+            "turn 1 if not not not not not not not not not not [", "turn 1" + "+1".repeat(60), "turn 1" + ";turn 1".repeat(12),
+            "turn 1 if 1=1 and", "turn 1 if 1"};
+        for (String text : before) {
+            EdgeWalk walk = Check.walk("sheet 3;goer 4 0 0");
+            Check.rule(walk, text);
+            int number = walk.count(2);
+            Check.due("behind '" + text + "'", Check.rule(walk, "turn 3 if 2=2 and [2=2 or 2=3]"), number);
+            walk.force(number);
+            Check.due("by it, behind '" + text + "'", walk.ahead(0, 1, 1), 3);
+            Check.rule(walk, text);
+            number = walk.count(2);
+            Check.due("again", Check.rule(walk, "turn 2 if 2=3;turn 1 if " + "not ".repeat(10) + "1=1" + " and 1=1".repeat(17)),
+                    number);
+            walk.force(number);
+            Check.due("by it, again", walk.ahead(0, 1, 1), 1);
+        }
+    }
+
     private static void turnAndIf() {
         terms("turn SUM [ if TEST ]. TEST: PART { or PART }. PART: FACT { and FACT }. "
                 + "FACT: not FACT | [ TEST ] (these brackets are signs) | SUM SIGN SUM");
@@ -287,6 +311,10 @@ public final class TextBoundsTest {
         rule("turn 1 if 1=", 12, 0);
         rule("turn 1 if 1", 11, 0);
         rule("turn 1 if [1+1]=2", 14, 0);
+        rule("turn 1 if [1=1]+1=1", 15, 0);
+        rule("turn 1 if [1=1]=1", 15, 0);
+        rule("turn 1 if [1=1] if 1=1", 16, 0);
+        rule("turn 1 if [1=1] 1", 16, 0);
         rule("turn [1]", 5, 0);
         rule("turn 1+", 7, 0);
         rule("turn *1", 5, 0);
@@ -343,6 +371,17 @@ public final class TextBoundsTest {
             sheet("sheet 2;" + clause.substring(1), 8, 0);
             sheet("sheet 2;" + word + "s 0 0 0", 8, 0);
             sheet("sheet 2;" + clause.toUpperCase(), 8, 0);
+        }
+        for (char letter = 'a'; letter <= 'z'; letter++) {
+            rule("turn" + letter + " 1", 0, 0);
+            rule(letter + "turn 1", 0, 0);
+            rule("turn 1 if" + letter + " 1=1", 7, 0);
+            rule("turn " + letter, 5, 0);
+            sheet("sheet" + letter + " 2", 0, 0);
+            sheet("sheet 2;" + letter + "stone 1", 8, 0);
+        }
+        for (char digit = '0'; digit <= '9'; digit++) {
+            rule("turn" + digit + "if" + digit + "=" + digit + "and" + digit + "=" + digit);
         }
         rule("turn 1 if not1=2 and[1=1]or 1=2and 1=1");
         rule("turn turn", 5, 0);
