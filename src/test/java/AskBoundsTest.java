@@ -1,7 +1,5 @@
 /** Each sentence of part III and promises 16 to 28 that names a bound, a tie, or what can't be asked. */
 public final class AskBoundsTest {
-    private static final int[] FAR = {Integer.MIN_VALUE, Integer.MIN_VALUE + 1, -1000, 1000, Integer.MAX_VALUE};
-
     public static void main(String[] args) {
         nothingChanges();
         byTheRuleInForce();
@@ -40,21 +38,6 @@ public final class AskBoundsTest {
 
     private static void terms(String quote) {
         Check.says("Terms", quote);
-    }
-
-    /** The answer to each number just beyond a range, and far beyond. */
-    private static void beyond(String what, int least, int most, int want, Beyond call) {
-        Check.due(what + " " + (least - 1), call.of(least - 1), want);
-        Check.due(what + " " + (most + 1), call.of(most + 1), want);
-        for (int far : FAR) {
-            if (far < least || far > most) {
-                Check.due(what + " " + far, call.of(far), want);
-            }
-        }
-    }
-
-    interface Beyond {
-        int of(int number);
     }
 
     /** Stays where he is, before a STONE, and goes on to CELL 5 in one STEP alone. */
@@ -162,9 +145,9 @@ public final class AskBoundsTest {
     private static void aheadRefused() {
         Check.says(16, "-2 without these.");
         EdgeWalk walk = Twin.busy();
-        beyond("goer", 0, 3, -2, g -> walk.ahead(g, 1, 0));
-        beyond("n", 0, 100, -2, n -> walk.ahead(0, n, 0));
-        beyond("what", 0, 2, -2, what -> walk.ahead(0, 1, what));
+        Check.beyond("goer", 0, 3, -2, g -> walk.ahead(g, 1, 0));
+        Check.beyond("n", 0, 100, -2, n -> walk.ahead(0, n, 0));
+        Check.beyond("what", 0, 2, -2, what -> walk.ahead(0, 1, what));
         Check.due("no goers", Check.walk("sheet 2").ahead(0, 0, 0), -2);
         Check.due("no sheet", new EdgeWalk().ahead(0, 0, 0), -2);
     }
@@ -196,7 +179,7 @@ public final class AskBoundsTest {
     private static void homeRefused() {
         Check.says(17, "NONE without that GOER.");
         EdgeWalk walk = Twin.busy();
-        beyond("goer", 0, 3, -1, walk::home);
+        Check.beyond("goer", 0, 3, -1, walk::home);
         Check.due("no goers", Check.walk("sheet 2").home(0), -1);
         Check.due("no sheet", new EdgeWalk().home(0), -1);
     }
@@ -223,7 +206,7 @@ public final class AskBoundsTest {
     private static void goneRefused() {
         Check.says(18, "NONE without these, or a SHEET.");
         EdgeWalk walk = Twin.busy();
-        beyond("n", 0, 100, -1, walk::gone);
+        Check.beyond("n", 0, 100, -1, walk::gone);
         Check.due("no sheet", new EdgeWalk().gone(0), -1);
     }
 
@@ -257,8 +240,8 @@ public final class AskBoundsTest {
     private static void leastFoodRefused() {
         Check.says(19, "NONE without these.");
         EdgeWalk walk = Twin.busy();
-        beyond("goer", 0, 3, -1, g -> walk.leastFood(g, 1));
-        beyond("n", 1, 100, -1, n -> walk.leastFood(0, n));
+        Check.beyond("goer", 0, 3, -1, g -> walk.leastFood(g, 1));
+        Check.beyond("n", 1, 100, -1, n -> walk.leastFood(0, n));
         Check.due("no goers", Check.walk("sheet 2").leastFood(0, 1), -1);
         Check.due("no sheet", new EdgeWalk().leastFood(0, 1), -1);
     }
@@ -299,8 +282,8 @@ public final class AskBoundsTest {
         for (int g = 0; g < 4; g++) {
             Check.due("alike", walk.meet(g, g), -1);
         }
-        beyond("one", 0, 3, -1, g -> walk.meet(g, 0));
-        beyond("other", 0, 3, -1, g -> walk.meet(0, g));
+        Check.beyond("one", 0, 3, -1, g -> walk.meet(g, 0));
+        Check.beyond("other", 0, 3, -1, g -> walk.meet(0, g));
         Check.due("one alone", Check.walk("sheet 2;goer 0 0 0").meet(0, 1), -1);
         Check.due("no sheet", new EdgeWalk().meet(0, 1), -1);
     }
@@ -347,11 +330,11 @@ public final class AskBoundsTest {
         EdgeWalk walk = Twin.busy();
         Check.due("one who is out", walk.shortest(1, 0), -1);
         Check.due("one who is lost", walk.shortest(2, 0), -1);
-        beyond("goer", 0, 3, -1, g -> walk.shortest(g, 0));
-        beyond("cell", 0, 8, -1, c -> walk.shortest(0, c));
+        Check.beyond("goer", 0, 3, -1, g -> walk.shortest(g, 0));
+        Check.beyond("cell", 0, 8, -1, c -> walk.shortest(0, c));
         Check.due("the last cell", walk.shortest(0, 8) >= 0 ? 1 : 0, 1);
         EdgeWalk six = Check.walk("sheet 6;goer 35 0 0");
-        beyond("cell", 0, 35, -1, c -> six.shortest(0, c));
+        Check.beyond("cell", 0, 35, -1, c -> six.shortest(0, c));
         Check.due("no sheet", new EdgeWalk().shortest(0, 0), -1);
     }
 
@@ -379,8 +362,8 @@ public final class AskBoundsTest {
     private static void seenRefused() {
         Check.says(22, "SEEN; NONE without these.");
         EdgeWalk walk = Twin.busy();
-        beyond("goer", 0, 3, -1, g -> walk.seen(g, 1));
-        beyond("n", 0, 100, -1, n -> walk.seen(0, n));
+        Check.beyond("goer", 0, 3, -1, g -> walk.seen(g, 1));
+        Check.beyond("n", 0, 100, -1, n -> walk.seen(0, n));
         Check.due("no goers", Check.walk("sheet 2").seen(0, 0), -1);
         Check.due("no sheet", new EdgeWalk().seen(0, 0), -1);
     }
@@ -413,10 +396,10 @@ public final class AskBoundsTest {
     private static void longestRefused() {
         Check.says(23, "NONE without these, or a SHEET.");
         EdgeWalk walk = Twin.busy();
-        beyond("n", 1, 100, -1, n -> walk.longest(n, 0));
-        beyond("n", 1, 100, -1, n -> walk.longest(n, 1));
-        beyond("what", 0, 1, -1, what -> walk.longest(1, what));
-        beyond("n without goers", 1, 100, -1, n -> Check.walk("sheet 2").longest(n, 0));
+        Check.beyond("n", 1, 100, -1, n -> walk.longest(n, 0));
+        Check.beyond("n", 1, 100, -1, n -> walk.longest(n, 1));
+        Check.beyond("what", 0, 1, -1, what -> walk.longest(1, what));
+        Check.beyond("n without goers", 1, 100, -1, n -> Check.walk("sheet 2").longest(n, 0));
         Check.due("no sheet", new EdgeWalk().longest(1, 0), -1);
     }
 
@@ -477,8 +460,8 @@ public final class AskBoundsTest {
     private static void bestFoldRefused() {
         Check.says(24, "NONE without these, or a SHEET.");
         EdgeWalk walk = Twin.busy();
-        beyond("n", 1, 40, -1, n -> walk.bestFold(n, 0));
-        beyond("what", 0, 3, -1, what -> walk.bestFold(1, what));
+        Check.beyond("n", 1, 40, -1, n -> walk.bestFold(n, 0));
+        Check.beyond("what", 0, 3, -1, what -> walk.bestFold(1, what));
         Check.due("no sheet", new EdgeWalk().bestFold(1, 0), -1);
     }
 
@@ -502,8 +485,8 @@ public final class AskBoundsTest {
     private static void bestStoneRefused() {
         Check.says(25, "NONE without these, or a SHEET.");
         EdgeWalk walk = Twin.busy();
-        beyond("n", 1, 40, -1, n -> walk.bestStone(n, 0));
-        beyond("what", 0, 2, -1, what -> walk.bestStone(1, what));
+        Check.beyond("n", 1, 40, -1, n -> walk.bestStone(n, 0));
+        Check.beyond("what", 0, 2, -1, what -> walk.bestStone(1, what));
         Check.due("no sheet", new EdgeWalk().bestStone(1, 0), -1);
     }
 
@@ -589,10 +572,10 @@ public final class AskBoundsTest {
         Check.says(26, "NONE without these (unlike, ON).");
         EdgeWalk walk = Check.walk("sheet 2;goer 0 0 9;goer 3 0 9;goer 3 2 0;goer 3 1 9");
         Check.due("alike", walk.rests(0, 0, 1, 0), -1);
-        beyond("one", 0, 3, -1, g -> walk.rests(g, 0, 1, 0));
-        beyond("other", 0, 3, -1, g -> walk.rests(0, g, 1, 0));
-        beyond("n", 1, 20, -1, n -> walk.rests(0, 1, n, 0));
-        beyond("what", 0, 2, -1, what -> walk.rests(0, 1, 1, what));
+        Check.beyond("one", 0, 3, -1, g -> walk.rests(g, 0, 1, 0));
+        Check.beyond("other", 0, 3, -1, g -> walk.rests(0, g, 1, 0));
+        Check.beyond("n", 1, 20, -1, n -> walk.rests(0, 1, n, 0));
+        Check.beyond("what", 0, 2, -1, what -> walk.rests(0, 1, 1, what));
         EdgeWalk out = Twin.busy();
         for (int g = 1; g < 4; g++) {
             Check.due("one is not on", out.rests(0, g, 1, 0), -1);
@@ -647,7 +630,7 @@ public final class AskBoundsTest {
     private static void ringRefused() {
         Check.says(27, "RING what 0: the STEP, 1: how much later; -2: there is none. NONE for others, or without a SHEET.");
         EdgeWalk walk = Twin.busy();
-        beyond("what", 0, 1, -1, walk::ring);
+        Check.beyond("what", 0, 1, -1, walk::ring);
         Check.due("no sheet", new EdgeWalk().ring(0), -1);
         Check.due("no sheet", new EdgeWalk().ring(1), -1);
     }
@@ -694,11 +677,8 @@ public final class AskBoundsTest {
     private static void breadRefused() {
         Check.says(28, "NONE without these.");
         EdgeWalk walk = Twin.busy();
-        Check.due("much -1", walk.bread(-1, 0), -1);
-        Check.due("much 10000", walk.bread(10000, 0), -1);
-        Check.due("much far", walk.bread(Integer.MAX_VALUE, 0), -1);
-        Check.due("much far below", walk.bread(Integer.MIN_VALUE, 0), -1);
-        beyond("goer", 0, 3, -1, g -> walk.bread(1, g));
+        Check.beyond("much", 0, 9999, -1, much -> walk.bread(much, 0));
+        Check.beyond("goer", 0, 3, -1, g -> walk.bread(1, g));
         Check.due("no goers", Check.walk("sheet 2").bread(1, 0), -1);
         Check.due("no sheet", new EdgeWalk().bread(1, 0), -1);
     }

@@ -17,7 +17,6 @@ public final class AskTest {
         rests();
         ring();
         bread();
-        nothingChanges();
         Check.finish();
     }
 
@@ -318,50 +317,5 @@ public final class AskTest {
         full.give(0, 20);
         full.give(0, 20);
         bread(full, 10, 0, 0, -1);
-    }
-
-    private static void nothingChanges() {
-        EdgeWalk walk = Check.walk(COLUMN + ";goer 8 1 3;stone 0;join 1 3 2", "turn 1 if margin = 0");
-        walk.step();
-        int[] before = all(walk);
-        walk.ahead(0, 50, 0);
-        walk.home(1);
-        walk.gone(60);
-        walk.leastFood(1, 60);
-        walk.meet(0, 1);
-        walk.shortest(0, 8);
-        walk.seen(0, 60);
-        walk.longest(60, 0);
-        walk.bestFold(40, 2);
-        walk.bestStone(40, 2);
-        walk.rests(0, 1, 20, 0);
-        walk.ring(0);
-        walk.bread(100, 0);
-        walk.ruled(0);
-        walk.look(30, 0);
-        walk.folds(-1);
-        walk.gusts(3, 30, 50, 0);
-        int[] behind = all(walk);
-        for (int k = 0; k < before.length; k++) {
-            Check.due("unchanged " + k, behind[k], before[k]);
-        }
-    }
-
-    private static int[] all(EdgeWalk walk) {
-        int[] all = new int[13 + 12 + 8 + 9];
-        int at = 0;
-        for (int what = 0; what < 13; what++) {
-            all[at++] = walk.count(what);
-        }
-        for (int k = 0; k < 12; k++) {
-            all[at++] = walk.goer(k / 6, k % 6);
-        }
-        for (int k = 0; k < 8; k++) {
-            all[at++] = walk.join(k / 2, k % 2);
-        }
-        for (int cell = 0; cell < 9; cell++) {
-            all[at++] = walk.stoneIn(cell);
-        }
-        return all;
     }
 }

@@ -1,7 +1,10 @@
 import java.nio.charset.StandardCharsets;
+import java.util.function.IntUnaryOperator;
 
 /** What the project's tests share: answers compared, texts fed. */
 final class Check {
+    private static final int[] FAR = {Integer.MIN_VALUE, Integer.MIN_VALUE + 1, -1000, 1000, Integer.MAX_VALUE};
+
     private static int wrong = 0;
     private static int asked = 0;
     private static String sentence = "";
@@ -26,6 +29,17 @@ final class Check {
             wrong++;
             if (wrong <= 40) {
                 System.out.println(sentence + what + " answered " + got + ", due is " + want);
+            }
+        }
+    }
+
+    /** The answer to the numbers just beyond a range, and to some far beyond. */
+    static void beyond(String what, int least, int most, int want, IntUnaryOperator call) {
+        due(what + " " + (least - 1), call.applyAsInt(least - 1), want);
+        due(what + " " + (most + 1), call.applyAsInt(most + 1), want);
+        for (int far : FAR) {
+            if (far < least || far > most) {
+                due(what + " " + far, call.applyAsInt(far), want);
             }
         }
     }

@@ -1,6 +1,5 @@
 /** Each sentence of promises 29 to 37, and of the Terms behind them, that names a bound or a refusal. */
 public final class GuessBoundsTest {
-    private static final int[] FAR = {Integer.MIN_VALUE, Integer.MIN_VALUE + 1, -1000, 1000, Integer.MAX_VALUE};
     private static final int[] MIDDLES = {1, 5, 7, 3};
 
     private static long x;
@@ -45,18 +44,6 @@ public final class GuessBoundsTest {
 
     private static void terms(String quote) {
         Check.says("Terms", quote);
-    }
-
-    interface Beyond {
-        int of(int number);
-    }
-
-    private static void beyond(String what, int least, int most, int want, Beyond call) {
-        Check.due(what + " " + (least - 1), call.of(least - 1), want);
-        Check.due(what + " " + (most + 1), call.of(most + 1), want);
-        for (int far : FAR) {
-            Check.due(what + " " + far, call.of(far), want);
-        }
     }
 
     /** By each RULE he goes from CELL 3 to CELL 4 in a STEP of its own, and stays there before a STONE. */
@@ -206,7 +193,7 @@ public final class GuessBoundsTest {
     private static void ruledRefused() {
         Check.says(30, "-3 for others, or without a SHEET.");
         EdgeWalk walk = Twin.busy();
-        beyond("what", 0, 1, -3, walk::ruled);
+        Check.beyond("what", 0, 1, -3, walk::ruled);
         Check.due("no sheet", new EdgeWalk().ruled(0), -3);
         Check.due("no sheet", new EdgeWalk().ruled(1), -3);
     }
@@ -269,12 +256,12 @@ public final class GuessBoundsTest {
     private static void lookRefused() {
         Check.says(31, "NONE without these, or a SHEET.");
         EdgeWalk walk = Twin.busy();
-        beyond("n", 0, 60, -1, n -> walk.look(n, 0));
-        beyond("n", 0, 60, -1, n -> walk.look(n, 1));
-        beyond("what", 0, 1, -1, what -> walk.look(0, what));
+        Check.beyond("n", 0, 60, -1, n -> walk.look(n, 0));
+        Check.beyond("n", 0, 60, -1, n -> walk.look(n, 1));
+        Check.beyond("what", 0, 1, -1, what -> walk.look(0, what));
         EdgeWalk nobody = Check.walk("sheet 2");
-        beyond("n without goers", 0, 60, -1, n -> nobody.look(n, 0));
-        beyond("what without goers", 0, 1, -1, what -> nobody.look(0, what));
+        Check.beyond("n without goers", 0, 60, -1, n -> nobody.look(n, 0));
+        Check.beyond("what without goers", 0, 1, -1, what -> nobody.look(0, what));
         Check.due("no sheet", new EdgeWalk().look(0, 0), -1);
     }
 
@@ -355,7 +342,7 @@ public final class GuessBoundsTest {
     private static void foldsRefused() {
         Check.says(32, "-3 for others, or without a SHEET.");
         EdgeWalk walk = Twin.busy();
-        beyond("what", -1, 3, -3, walk::folds);
+        Check.beyond("what", -1, 3, -3, walk::folds);
         for (int what = -1; what < 4; what++) {
             Check.due("no sheet", new EdgeWalk().folds(what), -3);
         }
@@ -509,10 +496,10 @@ public final class GuessBoundsTest {
     private static void gustsRefused() {
         Check.says(34, "GUSTS what 0: how many ON, 1: FOOD. NONE without these, or a SHEET.");
         EdgeWalk walk = Twin.busy();
-        beyond("m", 1, 10, -1, m -> walk.gusts(m, 1, 0, 0));
-        beyond("n", 1, 60, -1, n -> walk.gusts(1, n, 0, 0));
-        beyond("p", 0, 100, -1, p -> walk.gusts(1, 1, p, 0));
-        beyond("what", 0, 1, -1, what -> walk.gusts(1, 1, 0, what));
+        Check.beyond("m", 1, 10, -1, m -> walk.gusts(m, 1, 0, 0));
+        Check.beyond("n", 1, 60, -1, n -> walk.gusts(1, n, 0, 0));
+        Check.beyond("p", 0, 100, -1, p -> walk.gusts(1, 1, p, 0));
+        Check.beyond("what", 0, 1, -1, what -> walk.gusts(1, 1, 0, what));
         Check.due("no sheet", new EdgeWalk().gusts(1, 1, 0, 0), -1);
         Check.due("no sheet", new EdgeWalk().gusts(10, 60, 100, 1), -1);
     }
@@ -551,8 +538,8 @@ public final class GuessBoundsTest {
     private static void countRefused() {
         Check.says(35, "NONE for others.");
         EdgeWalk walk = Twin.busy();
-        beyond("what", 0, 12, -1, walk::count);
-        beyond("what without a sheet", 0, 12, -1, new EdgeWalk()::count);
+        Check.beyond("what", 0, 12, -1, walk::count);
+        Check.beyond("what without a sheet", 0, 12, -1, new EdgeWalk()::count);
     }
 
     private static void image() {
