@@ -7,7 +7,7 @@ import java.util.regex.Matcher;
 import java.util.regex.Pattern;
 import java.util.stream.Stream;
 
-/** Whether every word of the promises and of the Terms is quoted by a test of its own (the *BoundsTests). */
+/** The face; and whether every word of the promises and of the Terms is quoted by a test of its own (*BoundsTest). */
 public final class DocTest {
     private static final String ROOT = System.getProperty("project.root", ".");
     private static final Path DOC = Path.of(ROOT, "../shared/DOC.md");
@@ -23,6 +23,7 @@ public final class DocTest {
             return;
         }
         DocTest test = new DocTest();
+        face();
         test.readQuotes();
         test.promises();
         test.terms();
@@ -31,6 +32,22 @@ public final class DocTest {
 
     private static String plain(String text) {
         return text.replace("`", "").replaceAll("\\s+", " ");
+    }
+
+    /** The class has each line of the face as the document writes it, and nothing else that is public. */
+    private static void face() throws IOException {
+        String doc = Files.readString(DOC);
+        String source = Files.readString(Path.of(ROOT, "src/main/java/EdgeWalk.java"));
+        Matcher m = Pattern.compile("(?m)^ *(public [^\n]*?)(;| \\{)$").matcher(doc);
+        int lines = 0;
+        while (m.find()) {
+            boolean constant = m.group(1).contains(" = ");
+            String line = m.group(1) + (constant ? ";" : " {");
+            Check.due("the class has " + line, source.contains(line) ? 1 : 0, 1);
+            lines++;
+        }
+        Check.due("lines of the face", lines, 39);
+        Check.due("public in the class", source.split("\\bpublic\\b", -1).length - 1, lines);
     }
 
     private void readQuotes() throws IOException {
